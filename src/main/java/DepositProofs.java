@@ -491,7 +491,6 @@ public final class DepositProofs {
             owner[thing] = tenant;
             firstCondition[thing] = condition;
             firstMonth[thing] = month;
-            // The row may hold a thing that was undone.
             lastCondition[thing] = 0;
             lastMonth[thing] = NEVER;
             fairCondition[thing] = 0;
@@ -830,7 +829,7 @@ public final class DepositProofs {
         private final int[] numbers = new int[MOST_NUMBERS];
         private int place;
 
-        /** Where the command starts that was read last: the faulty one, if there is a fault. */
+        /** Where the faulty command starts, if there is a reason. */
         int start;
         int reason;
         int performed;
@@ -857,7 +856,6 @@ public final class DepositProofs {
         void tryOn(Flat state, Flat trial) {
             Flat.copy(state, trial);
             place = 0;
-            start = 0;
             reason = NO_FAULT;
             for (performed = 0; performed < MOST_CHARACTERS && place < length; performed++) {
                 start = place;

@@ -10,6 +10,9 @@ public final class AnswersTest {
         sharesOfOwnThings();
         orders();
         counts();
+        manyThings();
+        manyTenants();
+        allPlacesTaken();
         due.end();
     }
 
@@ -312,6 +315,79 @@ public final class AnswersTest {
         for (int setting = 0; setting < 5; setting++) {
             due.is("count of a setting", x.count(20 + setting), 11 + setting);
         }
+    }
+
+    private static void manyThings() {
+        due.about("promises 11 and 15, one tenant with twelve things");
+        DepositProofs x = new DepositProofs();
+        x.tenant(100, 0);
+        for (int thing = 0; thing < 12; thing++) {
+            x.thing(10 + thing, 10, 0, 10, 0);
+            x.look(thing, 0, 0);
+        }
+        checkCounts(x, new int[] {1, 0, 12, 12, 186, 186, 100, 0, 86, 0, 0, 4, 0});
+        for (int thing = 0; thing < 12; thing++) {
+            due.is("dispute", x.dispute(thing, 0), 0);
+            due.is("disputes so far", x.tenantOf(0, 8), (2 << thing) - 1);
+        }
+        checkCounts(x, new int[] {1, 0, 12, 12, 186, 0, 100, 100, 0, 12, 12, 4, 0});
+        x.agree(11, 0);
+        checkCounts(x, new int[] {1, 0, 12, 12, 186, 21, 100, 79, 0, 11, 11, 4, 0});
+        due.is("things with a share", x.tenantOf(0, 7), 4095);
+        due.is("first by what is kept", x.orderAt(0, 0), 11);
+        due.is("first by losses", x.orderAt(1, 0), 11);
+        due.is("last by values", x.orderAt(2, 11), 11);
+    }
+
+    private static void manyTenants() {
+        due.about("promises 11 and 15, six tenants with one thing");
+        for (int owner = 0; owner < 6; owner++) {
+            DepositProofs x = new DepositProofs();
+            for (int tenant = 0; tenant < 6; tenant++) {
+                x.tenant(10 + tenant, 0);
+            }
+            x.thing(20, 10, owner, 10, 0);
+            x.look(0, 0, 0);
+            x.go(owner, 6);
+            checkCounts(x, new int[] {6, 1, 1, 1, 20, 20, 75, 65 - owner, 10 - owner, 0, 0, 4, 0});
+            for (int tenant = 0; tenant < 6; tenant++) {
+                due.is("borne", x.tenantOf(tenant, 3), tenant == owner ? 20 : 0);
+                due.is("things with a share", x.tenantOf(tenant, 7), tenant == owner ? 1 : 0);
+            }
+        }
+    }
+
+    /** With all tenants and things each call of the face stays within its rows. */
+    private static void allPlacesTaken() {
+        due.about("six tenants and twelve things");
+        DepositProofs x = new DepositProofs();
+        for (int tenant = 0; tenant < 6; tenant++) {
+            x.tenant(10, tenant);
+        }
+        for (int thing = 0; thing < 12; thing++) {
+            x.thing(60, 20, -1, 10, 0);
+            x.look(thing, 0, 10);
+            for (int tenant = 0; tenant < 6; tenant++) {
+                due.is("dispute", x.dispute(thing, tenant), 0);
+            }
+        }
+        checkCounts(x, new int[] {6, 0, 12, 12, 360, 0, 60, 60, 0, 72, 12, 4, 0});
+        x.set(4, 0);
+        checkCounts(x, new int[] {6, 0, 12, 12, 360, 180, 60, 0, 120, 72, 0, 4, 0});
+        // Months 10 to 5, all are 45; of 15 they make 3, 3, 2, 2, 2 and 1, and 2 are left.
+        int[] shares = {4, 4, 2, 2, 2, 1};
+        for (int tenant = 0; tenant < 6; tenant++) {
+            due.is("share", x.shareOf(11, tenant, 0), shares[tenant]);
+            due.is("borne", x.tenantOf(tenant, 3), 12 * shares[tenant]);
+            due.is("things with a share", x.tenantOf(tenant, 7), 4095);
+            due.is("disputes", x.tenantOf(tenant, 8), 4095);
+            due.is("saved", x.wouldSave(tenant), 0);
+        }
+        due.is("order", x.orderAt(0, 11), 11);
+        due.is("not so many", x.orderAt(0, 12), Due.NONE);
+        due.is("best proof", x.bestProof(0), Due.NONE);
+        due.is("all is kept", x.keptBits(), Float.floatToIntBits(1f));
+        due.is("care", x.careBits(), Float.floatToIntBits(-5f));
     }
 
     private static void checkCounts(DepositProofs x, int[] want) {

@@ -9,6 +9,7 @@ public final class TextsTest {
         rightForms();
         otherReasons();
         positions();
+        unfinishedAtTheEnd();
         playing();
         playingIsOneChange();
         allCommands();
@@ -44,12 +45,31 @@ public final class TextsTest {
         due.is("empty again", x.clearText(), 0);
         due.is("no fault", x.fault(0), Due.NONE);
         due.is("no change", x.count(11), 0);
+        nothingStays(x);
         due.is("type", x.type('g'), 1);
         for (int i = 0; i < 100; i++) {
             x.type('a');
         }
         due.is("80", x.clearText(), 80);
         due.is("type", x.type('g'), 1);
+    }
+
+    /** Neither an emptied text nor its fault is met again. */
+    private static void nothingStays(DepositProofs x) {
+        Due.write(x, "x;");
+        due.is("a fault", x.fault(1), 1);
+        due.is("empty it", x.clearText(), 2);
+        due.is("no fault", x.fault(1), Due.NONE);
+        Due.write(x, "t5,55;");
+        due.is("no fault", x.fault(1), Due.NONE);
+        Due.write(x, "t5,55");
+        due.is("its ';' is missing", x.fault(1), 1);
+        Due.write(x, "t5,5");
+        x.type(';');
+        due.is("one tenant", x.play(), 1);
+        due.is("who came in month 5", x.tenantOf(0, 1), 5);
+        x.undo();
+        x.clearText();
     }
 
     private static void formFaults() {
@@ -63,7 +83,7 @@ public final class TextsTest {
             "i5,5,s,5;", "i5,5,s,5,5,5;", "i5,5,s5,5,5;", "i5,5,5s,5,5;", "i5,5,ss,5,5;",
             "i5,5,-1,5,5;", "i5,5,,5,5;", "i5,5,S,5,5;", "is,5,5,5,5;", "i5,s,5,5,5;", "i5,5,s,s,5;",
             "i5,5,s,5,s;", "i5,5,s,5,5", "i5,5,s", "i5,5,s;5,5;", "i,5,s,5,5;", "a5,5;", "s0,5;",
-            "s5,5;", "t5/5;", "t5:,5;", "t:,5;", "t/,5;", "e5,5;", "n", "~", "G0,5;", "t5,5:", "u;",
+            "s5,5;", "x5;", "s5;", "5;", "~0;", "t5/5;", "t5:,5;", "t:,5;", "t/,5;", "e5,5;", "n", "~", "G0,5;", "t5,5:", "u;",
         };
         for (String text : texts) {
             DepositProofs x = new DepositProofs();
@@ -155,6 +175,31 @@ public final class TextsTest {
         due.is("possible no more", x.fault(1), 3);
         x.undo();
         due.is("possible again", x.fault(1), Due.NONE);
+    }
+
+    /** A last command that the 80th character leaves unfinished. */
+    private static void unfinishedAtTheEnd() {
+        String[] ends = {"t", "t5", "t5,", "t5,5", "t5,555", "t5,5555", "t5555", "i5,5,", "i5,5,s"};
+        for (String end : ends) {
+            String rest = "p0,0;p0,1;p0,2;p0,3;t1,1;t1,1;t1,1;t1,1;t1,1;g0,1;t01,1;";
+            String thing = thingOfLength(80 - rest.length() - end.length());
+            DepositProofs x = new DepositProofs();
+            Due.type(x, thing + rest + end);
+            due.is("length with " + end, x.count(12), 80);
+            due.is("position of " + end, x.fault(0), 80 - end.length());
+            due.is("reason of " + end, x.fault(1), 1);
+            due.is("play with " + end, x.play(), Due.IMPOSSIBLE);
+        }
+    }
+
+    /** A shared thing as a command of 11 to 23 characters, by 0 ahead of its numbers. */
+    private static String thingOfLength(int length) {
+        String[] numbers = {"1", "1", "0", "0"};
+        for (int i = 0; i < 4; i++) {
+            int zeros = Math.max(0, Math.min(3, length - 11 - 3 * i));
+            numbers[i] = "000".substring(0, zeros) + numbers[i];
+        }
+        return "i" + numbers[0] + "," + numbers[1] + ",s," + numbers[2] + "," + numbers[3] + ";";
     }
 
     private static void fault(String text, int position, int reason) {

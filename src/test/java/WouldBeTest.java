@@ -5,6 +5,7 @@ public final class WouldBeTest {
     public static void main(String[] args) {
         oneMoreProof();
         theBestProof();
+        theBestProofOfMany();
         savings();
         savingsByRounding();
         keptParts();
@@ -111,6 +112,21 @@ public final class WouldBeTest {
         due.is("bestProof(0)", x.bestProof(0), thing);
         due.is("bestProof(1)", x.bestProof(1), kind);
         due.is("bestProof(2)", x.bestProof(2), more);
+    }
+
+    /** One tenant with twelve things: the best proof is one for the last of them. */
+    private static void theBestProofOfMany() {
+        DepositProofs x = new DepositProofs();
+        x.tenant(300, 0);
+        x.set(4, 1);
+        for (int thing = 0; thing < 12; thing++) {
+            x.thing(10 + thing, 10, 0, 10, 0);
+            x.look(thing, 0, 0);
+            x.dispute(thing, 0);
+            best(x, thing, 0, (10 + thing) / 2);
+            x.proof(thing, 0);
+        }
+        best(x, Due.NONE, Due.NONE, Due.NONE);
     }
 
     private static void savings() {
@@ -250,15 +266,17 @@ public final class WouldBeTest {
         due.about("promise 21");
         DepositProofs x = new DepositProofs();
         due.is("empty", x.undo(), Due.IMPOSSIBLE);
-        String[] pictures = new String[8];
+        String[] numbers = new String[6];
         for (int tenant = 0; tenant < 6; tenant++) {
-            pictures[tenant] = Due.picture(x);
+            numbers[tenant] = numbersOf(x);
             x.tenant(100 + tenant, tenant);
             due.is("states", x.count(11), tenant < 4 ? tenant + 1 : 4);
         }
+        due.is("an error with a full history", x.tenant(7, 7), Due.LIMIT);
+        due.is("another one", x.go(0, 241), Due.INVALID);
         for (int left = 3; left >= 0; left--) {
             due.is("undo()", x.undo(), left);
-            due.is("tenants", x.count(0), left + 2);
+            due.same("undo() to " + left, numbersOf(x), numbers[left + 2], true);
             due.is("states", x.count(11), left);
         }
         due.is("the oldest were dropped", x.undo(), Due.IMPOSSIBLE);
@@ -273,6 +291,14 @@ public final class WouldBeTest {
         due.is("undo()", x.undo(), 0);
         due.is("undo()", x.undo(), Due.IMPOSSIBLE);
         freshRows();
+    }
+
+    private static String numbersOf(DepositProofs x) {
+        StringBuilder all = new StringBuilder();
+        for (int tenant = 0; tenant < 6; tenant++) {
+            all.append(x.tenantOf(tenant, 0)).append(' ').append(x.tenantOf(tenant, 1)).append(' ');
+        }
+        return all.append(x.count(0)).toString();
     }
 
     /** A thing or tenant that is added after one was undone has nothing of that one. */
@@ -314,6 +340,17 @@ public final class WouldBeTest {
             due.is("one state more", x.count(11), 1);
             due.is("undo()", x.undo(), 0);
             due.same("change and undo " + change, Due.picture(x), before, true);
+            // A second state, where an undone change had left another one behind.
+            x.set(0, 7);
+            x.set(0, 8);
+            x.undo();
+            x.undo();
+            x.set(1, 9);
+            before = Due.picture(x);
+            due.is("change " + change, make(x, change) >= 0 ? 1 : 0, 1);
+            due.is("two states", x.count(11), 2);
+            due.is("undo()", x.undo(), 1);
+            due.same("second change and undo " + change, Due.picture(x), before, true);
         }
         DepositProofs x = prepared();
         String before = Due.picture(x);
