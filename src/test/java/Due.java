@@ -117,12 +117,12 @@ final class Due {
         return all.toString();
     }
 
-    /** Says that a picture is, or is not, the one of before. */
-    void same(String call, String got, String want, boolean wanted) {
+    /** A picture is the one that it should be. */
+    void same(String call, String got, String want) {
         calls++;
-        if (got.equals(want) != wanted) {
+        if (!got.equals(want)) {
             wrong++;
-            System.out.println(part + ": " + call + (wanted ? " changed something" : " changed nothing"));
+            System.out.println(part + ": " + call + " changed something");
             System.out.println("  before: " + want);
             System.out.println("  after:  " + got);
         }
@@ -141,7 +141,7 @@ final class Due {
             for (int i = 0; i < steps; i++) {
                 is(name + ", undo", y.undo(), x.undo());
             }
-            same(name + ", " + steps + " steps back", picture(y), picture(x), true);
+            same(name + ", " + steps + " steps back", picture(y), picture(x));
         }
     }
 }

@@ -606,6 +606,17 @@ public final class EdgesOfAnswersTest {
         best(x, 1, 3, 10);
         x.set(2, 6);
         best(x, 1, 2, 10);
+        // A kind that is lower than that of a thing with a lower number counts for nothing.
+        x = own(5, 10, 10);
+        int[] settings = {3, 0, 0, 2, 5};
+        for (int what = 0; what < 5; what++) {
+            x.set(what, settings[what]);
+        }
+        x.proof(0, 0);
+        x.proof(1, 3);
+        x.dispute(0, 0);
+        x.dispute(1, 0);
+        best(x, 0, 3, 5);
         x = own(5, 2, 1, 1, 1, 1, 1, 1, 1, 1, 1, 1, 4);
         x.set(4, 3);
         x.dispute(0, 0);

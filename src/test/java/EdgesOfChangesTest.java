@@ -194,9 +194,13 @@ public final class EdgesOfChangesTest {
         DepositProofs x = new DepositProofs();
         due.is("the first", x.thing(1, 1, -1, 0, 0), 0);
         x.look(0, 0, 0);
-        due.is("the second", x.thing(999, 120, -1, 10, 240), 1);
+        x.tenant(5, 0);
+        due.is("the second", x.thing(999, 120, 0, 10, 0), 1);
+        Due.type(x, "o1,0,0;p1,1;p1,2;d1,0;v1,0;");
+        due.is("inventory, proofs, dispute, decision", x.play(), 5);
         x.undo();
-        due.is("the second, after an undo", x.thing(7, 8, -1, 9, 10), 1);
+        x.undo();
+        due.is("the second, after undos", x.thing(7, 8, -1, 9, 10), 1);
         x.thing(0, 1, -1, 0, 0);
         due.is("the third, after an error", x.thing(5, 5, -1, 5, 5), 2);
         int[] want = {7, 8, Due.NONE, 9, 10, Due.NONE, Due.NONE, Due.NONE, Due.NONE, Due.NONE,

@@ -125,8 +125,10 @@ public final class EdgesOfTextsTest {
         due.is("no fault", x.fault(0), Due.NONE);
         due.is("no commands", x.play(), 0);
         due.is("no tenant", x.count(0), 0);
-        Due.type(x, "t5,");
-        due.is("nothing is met of the old one", x.fault(1), 1);
+        for (String text : new String[] {"t", "t5", "t5,", "t5,5"}) {
+            Due.write(x, text);
+            due.is("nothing is met of the old one after " + text, x.fault(1), 1);
+        }
     }
 
     private static void clearTextLength() {

@@ -1,7 +1,9 @@
 /** All promises: long runs of calls, each answered by the program as by the plain model. */
 public final class ModelTest {
     private static final int RUNS = 1500;
+    /** An object is good for 512 calls; the longest step, a text of four commands, takes some 96. */
     private static final int CALLS = 512;
+    private static final int MOST_OF_A_STEP = 100;
     private static final String[] LETTERS = {"t", "g", "i", "o", "p", "d", "v"};
 
     private final Due due = new Due();
@@ -25,7 +27,7 @@ public final class ModelTest {
             if (run % 4 != 0) {
                 furnish(span);
             }
-            while (calls < CALLS) {
+            while (calls <= CALLS - MOST_OF_A_STEP) {
                 step(span);
             }
         }

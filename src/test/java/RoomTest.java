@@ -9,13 +9,17 @@ public final class RoomTest {
     public static void main(String[] args) {
         com.sun.management.ThreadMXBean threads =
                 (com.sun.management.ThreadMXBean) ManagementFactory.getThreadMXBean();
-        DepositProofs x = new DepositProofs();
+        // One object a round, as an object is good for 512 calls.
+        DepositProofs[] rounds = new DepositProofs[ROUNDS];
+        for (int round = 0; round < ROUNDS; round++) {
+            rounds[round] = new DepositProofs();
+        }
         int[] text = "t5,5;i90,100,s,10,5;o0,0,9;d0,0;p0,1;v0,80;g0,9;".chars().toArray();
         long thread = Thread.currentThread().getId();
-        callAll(x, text);
+        callAll(new DepositProofs(), text);
         long before = threads.getThreadAllocatedBytes(thread);
         for (int round = 0; round < ROUNDS; round++) {
-            callAll(x, text);
+            callAll(rounds[round], text);
         }
         long bytes = threads.getThreadAllocatedBytes(thread) - before;
         System.out.println(ROUNDS + " rounds of all calls took " + bytes + " bytes");

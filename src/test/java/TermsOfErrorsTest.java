@@ -76,8 +76,24 @@ public final class TermsOfErrorsTest {
         });
     }
 
-    /** The call makes a state, and undo restores what was before it. */
+    /** The call makes a state, and undo restores what was before it, also with a full history. */
     private static void changes(String name, ToIntFunction<DepositProofs> call) {
+        for (int steps = 1; steps <= 4; steps++) {
+            DepositProofs x = Due.after(TermsOfErrorsTest::flat);
+            DepositProofs y = Due.after(TermsOfErrorsTest::flat);
+            call.applyAsInt(x);
+            y.set(4, 5);
+            due.is("states after " + name, x.count(11), 4);
+            for (int i = 0; i < steps; i++) {
+                due.is("undo of " + name, x.undo(), y.undo());
+            }
+            Due.write(x, "t5,5;");
+            due.same(name + ", " + steps + " steps back", Due.picture(x), Due.picture(y));
+        }
+        changesFirst(name, call);
+    }
+
+    private static void changesFirst(String name, ToIntFunction<DepositProofs> call) {
         DepositProofs x = Due.after(TermsOfErrorsTest::flatWithoutHistory);
         due.is("states before " + name, x.count(11), 0);
         due.is(name + " is possible", call.applyAsInt(x) >= 0 ? 1 : 0, 1);
@@ -85,7 +101,7 @@ public final class TermsOfErrorsTest {
         due.is("undo of " + name, x.undo(), 0);
         Due.write(x, "t5,5;");
         String before = Due.picture(Due.after(TermsOfErrorsTest::flatWithoutHistory));
-        due.same(name + " and undo", Due.picture(x), before, true);
+        due.same(name + " and undo", Due.picture(x), before);
     }
 
     private static void callsThatAreNoChanges() {
@@ -159,7 +175,7 @@ public final class TermsOfErrorsTest {
         due.is("play", x.play(), 12);
         due.is("undo", x.undo(), 0);
         Due.write(x, "t5,5;");
-        due.same("play and undo", Due.picture(x), before, true);
+        due.same("play and undo", Due.picture(x), before);
         x.agree(1, 1);
         x.set(4, 0);
         x.set(3, 20);

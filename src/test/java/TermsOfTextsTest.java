@@ -10,6 +10,7 @@ public final class TermsOfTextsTest {
 
     public static void main(String[] args) {
         atMost80Characters();
+        unfinishedAtThe80th();
         initiallyEmpty();
         eachFollowedByItsEnd();
         formsOfCommands();
@@ -68,6 +69,22 @@ public final class TermsOfTextsTest {
         due.is("80 still", x.count(12), 80);
         x.thing(5, 5, -1, 5, 5);
         due.is("the second command is done already", x.fault(0), 5);
+    }
+
+    private static void unfinishedAtThe80th() {
+        due.about("Terms: a command that 80 characters leave unfinished");
+        String proofs = "p0,0;p0,1;p0,2;p0,3;p1,0;p1,1;p1,2;p1,3;p2,0;p2,1;p2,2;p2,3;p3,0;p3,1;p3,2;";
+        for (String end : new String[] {"p3,03", "p3,,,", "p0003", "t5,00", "t0000", "i5,5,", "o5,5,",
+            "x", "t", "t5", "t5,", "t5,5", ""}) {
+            DepositProofs x = new DepositProofs();
+            for (int thing = 0; thing < 4; thing++) {
+                x.thing(5, 5, -1, 5, 5);
+            }
+            Due.type(x, proofs + end);
+            due.is("position of " + end, x.fault(0), end.isEmpty() ? Due.NONE : 75);
+            due.is("reason of " + end, x.fault(1), end.isEmpty() ? Due.NONE : 1);
+            due.is("play of " + end, x.play(), end.isEmpty() ? 15 : Due.IMPOSSIBLE);
+        }
     }
 
     private static void initiallyEmpty() {
@@ -218,7 +235,8 @@ public final class TermsOfTextsTest {
 
     private static void reason1() {
         due.about("Terms: its reason is 1 if it is not of this form, its \";\" included");
-        for (String text : new String[] {"x", ";", " ", "t", "t5", "t5,", "t5,5", "tt5,5;", "T5,5;"}) {
+        for (String text : new String[] {"x", ";", " ", "t", "t5", "t5,", "t5,5", "tt5,5;", "T5,5;", " t5,5;",
+            "t5,5 ;", "t 5,5;"}) {
             faultOf(text, 0, 1);
             faultOf("t5,5;" + text, 5, 1);
         }

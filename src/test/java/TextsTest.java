@@ -149,7 +149,7 @@ public final class TextsTest {
         due.is("position of " + text, x.fault(0), start);
         due.is("reason of " + text, x.fault(1), want);
         due.is("play of " + text, x.play(), Due.IMPOSSIBLE);
-        due.same("play of " + text, Due.picture(x), before, true);
+        due.same("play of " + text, Due.picture(x), before);
     }
 
     private static void positions() {
