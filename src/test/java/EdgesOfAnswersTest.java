@@ -744,6 +744,14 @@ public final class EdgesOfAnswersTest {
             due.is(sum + " of " + row.length, x.careBits(),
                     Float.floatToIntBits((float) sum / (float) row.length));
         }
+        for (int last = 0; last <= 10; last++) {
+            for (int first = 0; first <= 10; first++) {
+                DepositProofs x = new DepositProofs();
+                x.thing(5, 20, -1, first, 7);
+                x.look(0, last, 7);
+                due.is(last + " less " + first, x.careBits(), Float.floatToIntBits(last - first));
+            }
+        }
         DepositProofs x = new DepositProofs();
         x.thing(5, 20, -1, 10, 0);
         x.thing(5, 20, -1, 10, 0);

@@ -180,6 +180,7 @@ public final class EdgesOfTextsTest {
             due.is("a command", typed("t5,5;").fault(what), Due.NONE);
             due.is("six commands", typed("t5,5;".repeat(6)).fault(what), Due.NONE);
             DepositProofs x = typed("x");
+            due.is("a fault", x.fault(what), what);
             x.clearText();
             due.is("emptied", x.fault(what), Due.NONE);
         }
@@ -269,6 +270,11 @@ public final class EdgesOfTextsTest {
         }
         due.is("the change before was dropped", x.undo(), Due.IMPOSSIBLE);
         due.is("its setting stays", x.count(20), 7);
+        Due.type(x, "t5,5;x");
+        due.is("play with a fault", x.play(), Due.IMPOSSIBLE);
+        x.clearText();
+        due.is("play of the emptied text", x.play(), 0);
+        due.is("no tenant", x.count(0), 0);
     }
 
     private static void playNumber() {
