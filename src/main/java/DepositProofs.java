@@ -44,6 +44,8 @@ public final class DepositProofs {
     private static final int OUT_OF_RANGE = 2;
     private static final int OTHER_ERROR = 3;
 
+    private static final int SIGN_BIT = 1 << 31;
+
     private final Flat now = new Flat();
     private final Flat trial = new Flat();
     private final History history = new History();
@@ -367,7 +369,7 @@ public final class DepositProofs {
         if (number == 0f) {
             return 0;
         }
-        int sign = number < 0f ? Integer.MIN_VALUE : 0;
+        int sign = number < 0f ? SIGN_BIT : 0;
         float rest = number < 0f ? -number : number;
         int exponent = 127;
         for (int i = 0; i < 127 && rest >= 2f; i++) {

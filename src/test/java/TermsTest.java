@@ -27,7 +27,7 @@ public final class TermsTest {
         monthsFromTheLaterOne();
         monthsToTheEarlierOne();
         monthsAtLeast0();
-        ownThingsAreBornByTheirTenant();
+        ownThingsAreBorneByTheirTenant();
         sharesByMonths();
         restOfRounding();
         borneByNobody();
@@ -414,7 +414,7 @@ public final class TermsTest {
         due.is("both inventories in a month", months(5, -1, 10, 10), 0);
     }
 
-    private static void ownThingsAreBornByTheirTenant() {
+    private static void ownThingsAreBorneByTheirTenant() {
         due.about("Terms: what is kept for a thing of one tenant is that tenant's share");
         for (int owner = 0; owner < 6; owner++) {
             DepositProofs x = Due.after(TermsTest::six);
